@@ -39,6 +39,9 @@ public final class RowsTest {
         dueMost(saint, 2, 18, 1, 0, 3, 2);
         dueBest(saint, 30, 18, 0, NONE, NONE, 3, 2);
         dueStable(saint, 1, 1, 2, NONE, 0, NONE);
+        // Of rows of as many pairs that of the greatest likeness, though it is not the first.
+        dueMost(Check.drawer("s100,s090,s190,s050"), 2, 26, 3, 2, 1, 0);
+        dueMost(Check.drawer("s020,s100,s110"), 1, 16, 2, NONE, 0);
     }
 
     private static void likenessWithinMiles() {

@@ -81,6 +81,7 @@ public final class SinglesTest {
         Check.due("paired ones, too, may be", saint.single(1, 5), 29);
         Check.due("single(0, 4)", saint.single(0, 4), 3);
         Check.due("single(3, 4)", saint.single(3, 4), 0);
+        Check.due("one that is like by 0 is preferred, too", Check.drawer("s000,s190").single(1, 6), 0);
     }
 
     private static void spikes() {
