@@ -212,7 +212,10 @@ public final class GloveSaint {
     }
 
     public int round(int station) {
-        return isStation(station) ? shown.roundFrom(station) : UNKNOWN;
+        if (!isStation(station) || shown.isMissing()) {
+            return UNKNOWN;
+        }
+        return shown.roundFrom(station);
     }
 
     public int odds(int what) {

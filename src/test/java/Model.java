@@ -442,7 +442,7 @@ final class Model {
 
     /** Goes down first, or up first, step by step, until all have been passed. */
     int round(int from) {
-        if (from < 0 || from > 5) {
+        if (from < 0 || from > 5 || n() == 0) {
             return UNKNOWN;
         }
         return Math.min(walk(from, -1), walk(from, 1));

@@ -4,8 +4,8 @@ public final class RoundOddsTest {
         dueRounds(Check.drawer("s001,s003,s002"), 3, 2, 3, 2, 3, 4);
         dueRounds(Check.drawer("s000,s005"), 5, 6, 7, 7, 6, 5);
         dueRounds(Check.drawer("s002,s002"), 2, 1, 0, 1, 2, 3);
-        dueRounds(new GloveSaint(), 0, 0, 0, 0, 0, 0);
         roundWithoutPaired();
+        roundWithoutDrawer();
         dueOdds(Check.drawer("s000,s100,s100,s000"), 2, 3);
         dueOdds(Check.drawer("s000,s000,s000"), 0, 1);
         dueOdds(Check.drawer("k000,k000"), 1, 1);
@@ -28,6 +28,24 @@ public final class RoundOddsTest {
         dueRounds(saint, 4, 3, 2, 1, 0, 1);
         saint.bring(2, 3);
         dueRounds(saint, 0, 0, 0, 0, 0, 0);
+    }
+
+    /** A page that is no DRAWER leaves none; from the first DRAWER on there are MILES to tell. */
+    private static void roundWithoutDrawer() {
+        int no = GloveSaint.UNKNOWN;
+        GloveSaint saint = new GloveSaint();
+        dueRounds(saint, no, no, no, no, no, no);
+        Check.write(saint, "s001");
+        dueRounds(saint, no, no, no, no, no, no);
+        Check.due("drawer() of one", saint.drawer(), GloveSaint.STATE);
+        dueRounds(saint, no, no, no, no, no, no);
+        Check.write(saint, ",s003");
+        dueRounds(saint, no, no, no, no, no, no);
+        Check.due("drawer() of two", saint.drawer(), 2);
+        dueRounds(saint, 3, 2, 3, 2, 3, 4);
+        Check.write(saint, "s");
+        Check.due("drawer() of a letter", saint.drawer(), GloveSaint.STATE);
+        dueRounds(saint, 3, 2, 3, 2, 3, 4);
     }
 
     private static void dueOdds(GloveSaint saint, int above, int below) {
