@@ -3,13 +3,17 @@ import java.util.Random;
 /** All promises at once: runs of calls by chance, each answer compared with the Model's. */
 public final class ModelTest {
     private static final int RUNS = 1200;
-    private static final int CALLS = 400;
-    private static final int[] ODD = {-1, 7, 19, 31, 61, 127, Integer.MAX_VALUE, Integer.MIN_VALUE};
+    /** An object's calls that are promised, and how many are kept for a page and its drawer. */
+    private static final int CALLS = 512;
+    private static final int CALLS_OF_DRAWER = 40;
+    private static final int[] ODD = {-1, -2, 2, 5, 6, 7, 8, 9, 10, 11, 13, 17, 19, 30, 31, 60, 61, 127,
+        -101, Integer.MAX_VALUE, Integer.MIN_VALUE};
 
     private final Random chance;
     private final GloveSaint saint = new GloveSaint();
     private final Model model = new Model();
     private final String run;
+    private int calls = 0;
 
     private ModelTest(int seed) {
         chance = new Random(seed);
@@ -27,17 +31,19 @@ public final class ModelTest {
         if (chance.nextInt(4) > 0) {
             readDrawer();
         }
-        for (int call = 0; call < CALLS; call++) {
-            if (chance.nextInt(120) == 0) {
+        for (int turn = 0; turn < CALLS && calls < CALLS - 3; turn++) {
+            if (chance.nextInt(120) == 0 && calls < CALLS - CALLS_OF_DRAWER) {
                 readDrawer();
             } else {
                 ask(chance.nextInt(34));
             }
         }
         due("digest()", saint.digest(), model.digest());
+        Check.due(run + "calls that are promised", calls <= CALLS ? 1 : 0, 1);
     }
 
     private void due(String call, long got, long want) {
+        calls++;
         Check.due(run + call, got, want);
     }
 
@@ -46,8 +52,7 @@ public final class ModelTest {
         int sizes = 1 + chance.nextInt(10);
         int stations = 1 + chance.nextInt(6);
         int singles = 2 + chance.nextInt(6);
-        saint.blank();
-        model.blank();
+        due("blank()", saint.blank(), model.blank());
         for (int one = 0; one < singles; one++) {
             if (one > 0) {
                 write(',');
