@@ -196,6 +196,8 @@ public final class EdgesRowsTest {
         dueStable(Check.drawer("s000,s190"), 1, 1, 1, 0);
         // 0 would rather have 2, and 2 would rather have 0; then 1 and 3 have one another.
         dueStable(Check.drawer("k000,k090,k010,k080"), 1, 2, 2, 3, 0, 1);
+        // The MITTEN is like 1 by 17, like 2 by 18: one more is enough to leave for.
+        dueStable(Check.drawer("m050,g160,g150"), 1, 1, 2, NONE, 0);
         // Of like ones the lesser number: 1 is as like 0 as 2, and 0 would have 1.
         dueStable(Check.drawer("k050,k060,k040"), 1, 1, 1, 0, NONE);
         // The most PAIRS would be two; but 0 and 1 want one another, so 2 and 3 stay alone.

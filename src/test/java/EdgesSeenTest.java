@@ -177,6 +177,12 @@ public final class EdgesSeenTest {
         Check.due("nothing is SEEN: either leaves two", saint.single(0, 10), 1);
         saint.see(0, 1, 16);
         Check.due("4 or 6, which 1 does not tell apart", saint.single(0, 10), 2);
+        GloveSaint first = Check.drawer("s050,s110,s190");
+        first.see(0, 1, 16);
+        Check.due("0 or 2, which 1 does not tell apart", first.single(0, 10), 2);
+        GloveSaint last = Check.drawer("s050,s180,s100");
+        last.see(0, 1, 16);
+        Check.due("7 or 9, which 1 does not tell apart", last.single(0, 10), 2);
     }
 
     private static void lookOfLikeOnes() {
