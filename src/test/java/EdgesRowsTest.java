@@ -23,6 +23,8 @@ public final class EdgesRowsTest {
         bestOutside();
         bestWithoutDrawer();
         stableByPreference();
+        stableOfPairedOnes();
+        stableIsAlwaysOne();
         stableOfNone();
         stableOutside();
         stableWithoutDrawer();
@@ -202,6 +204,48 @@ public final class EdgesRowsTest {
         dueStable(Check.drawer("k050,k060,k040"), 1, 1, 1, 0, NONE);
         // The most PAIRS would be two; but 0 and 1 want one another, so 2 and 3 stay alone.
         dueStable(Check.drawer("s000,s100,s190,r000"), 1, 1, 1, 0, NONE, NONE);
+    }
+
+    /** Who is PAIRED now is in no ROW, so it is neither alone by one, nor leaves anybody for another one. */
+    private static void stableOfPairedOnes() {
+        Check.of(0, "STABLE are ROWS by which there are no two that MAY be PAIRED, and are not");
+        GloveSaint unlike = Check.drawer("k000,k090,k000");
+        unlike.bring(0, 1);
+        Check.due("0 would rather have 2", unlike.single(0, 6), 2);
+        Check.due("2 would rather have 0", unlike.single(2, 6), 0);
+        dueStable(unlike, 1, 0);
+        unlike.part(0);
+        dueStable(unlike, 1, 1, 2, NONE, 0);
+        GloveSaint two = Check.drawer("k000,k000,k090,k000");
+        two.bring(0, 1);
+        Check.due("3 would rather have 0", two.single(3, 6), 0);
+        dueStable(two, 1, 1, NONE, NONE, 3, 2);
+        GloveSaint both = Check.drawer("k000,k090,k000,k090");
+        both.bring(0, 1);
+        both.bring(2, 3);
+        Check.due("0 would rather have 2", both.happy(0), 0);
+        dueStable(both, 1, 0);
+    }
+
+    /**
+     * Of the greatest LIKENESS that is left, the least number and the least that it has there want one
+     * another: they are together by every such ROW, and so on. So there is one, and never a second.
+     */
+    private static void stableIsAlwaysOne() {
+        Check.of(17, "1 how many PAIRS the first has");
+        String[] parts = {"s000", "s110", "k000", "k120", "g010", "m100", "m130", "r100"};
+        for (int number = 0; number < 8 * 8 * 8 * 8; number++) {
+            String text = parts[number & 7] + "," + parts[number >> 3 & 7] + "," + parts[number >> 6 & 7]
+                + "," + parts[number >> 9];
+            GloveSaint saint = new GloveSaint();
+            Check.write(saint, text);
+            saint.drawer();
+            Check.due("stable(0) of " + text, saint.stable(0), 1);
+            for (int one = 1; one < 4; one++) {
+                saint.bring(0, one);
+            }
+            Check.due("stable(0) of " + text + " with PAIRED ones", saint.stable(0), 1);
+        }
     }
 
     private static void stableOfNone() {

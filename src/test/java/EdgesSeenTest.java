@@ -16,6 +16,7 @@ public final class EdgesSeenTest {
         sizesAllElseAsItIs();
         sizesOfAllThatIsSeen();
         lookAtWorst();
+        lookAtPairedOnes();
         lookOfLikeOnes();
         lookOfNone();
         Check.end("EdgesSeenTest");
@@ -183,6 +184,19 @@ public final class EdgesSeenTest {
         GloveSaint last = Check.drawer("s050,s180,s100");
         last.see(0, 1, 16);
         Check.due("7 or 9, which 1 does not tell apart", last.single(0, 10), 2);
+    }
+
+    private static void lookAtPairedOnes() {
+        Check.of(0, "LOOK for one: with which other one to compare it");
+        GloveSaint saint = Check.drawer("s000,s150,s190,s090");
+        Check.due("the end tells all apart", saint.single(0, 10), 2);
+        saint.bring(2, 3);
+        Check.due("also if it is PAIRED", saint.single(0, 10), 2);
+        Check.due("its mate, too", saint.single(2, 10), 0);
+        Check.due("its mate, too", saint.single(3, 10), 2);
+        saint.part(2);
+        saint.bring(1, 0);
+        Check.due("one that is PAIRED is compared, too", saint.single(0, 10), 2);
     }
 
     private static void lookOfLikeOnes() {

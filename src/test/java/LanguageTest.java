@@ -4,7 +4,11 @@ import java.lang.reflect.Method;
 import java.lang.reflect.Modifier;
 import java.nio.file.Files;
 import java.nio.file.Path;
+import java.util.ArrayDeque;
+import java.util.Deque;
+import java.util.Map;
 import java.util.Set;
+import java.util.TreeMap;
 import java.util.TreeSet;
 import java.util.regex.Matcher;
 import java.util.regex.Pattern;
@@ -22,6 +26,11 @@ public final class LanguageTest {
         "\\bSystem\\.(?!arraycopy)", "\\bMath\\.(?!abs|min|max)", "\\bArrays\\.(?!fill)",
         "\\bInteger\\.(?!bitCount)", "\\bjava\\.(?!util\\.Arrays;)", "\\b(equals|hashCode|toString)\\b"};
 
+    /** A method's head stands four or eight blanks in; its end is the "}" as far in. */
+    private static final Pattern METHOD =
+        Pattern.compile("(?m)^( {4}| {8})(?! )[^\n;=(]*?(\\w+)\\([^\n;=]*\\) \\{\n((?s:.*?)\n)??\\1\\}");
+    private static final Pattern CALL = Pattern.compile("\\b(?!(?:if|for|while|switch|return)\\b)(\\w+)\\(");
+
     public static void main(String[] args) throws IOException {
         String source = Files.readString(Path.of("src/main/java/GloveSaint.java"));
         String code = source.replaceAll("(?s)/\\*.*?\\*/", "").replaceAll("//[^\n]*", "")
@@ -33,6 +42,7 @@ public final class LanguageTest {
         face();
         classesInside();
         Check.due("methods over sixty lines", longMethods(code), 0);
+        callsStandNotTooDeep(code);
         Check.end("LanguageTest");
     }
 
@@ -70,8 +80,11 @@ public final class LanguageTest {
 
     private static void classesInside() {
         Class<?>[] inside = GloveSaint.class.getDeclaredClasses();
-        Check.due("more than twelve classes", inside.length > 12 ? 1 : 0, 0);
+        Check.due("more than twelve classes", inside.length + 1 > 12 ? 1 : 0, 0);
         for (Class<?> each : inside) {
+            for (Method method : each.getDeclaredMethods()) {
+                Check.due("over seven parameters: " + method, method.getParameterCount() > 7 ? 1 : 0, 0);
+            }
             Check.due("static: " + each, Modifier.isStatic(each.getModifiers()) ? 1 : 0, 1);
             int fields = 0;
             for (Field field : each.getDeclaredFields()) {
@@ -83,9 +96,37 @@ public final class LanguageTest {
         }
     }
 
-    /** A method's head stands four or eight blanks in; its end is the "}" as far in. */
     private static long longMethods(String code) {
-        Matcher method = Pattern.compile("(?m)^( {4}| {8})(?! )[^\n;=]*\\) \\{\n((?s:.*?)\n)??\\1\\}").matcher(code);
-        return method.results().filter(found -> found.group().lines().count() > 60).count();
+        return METHOD.matcher(code).results().filter(found -> found.group().lines().count() > 60).count();
+    }
+
+    /** By names alone, so that a call of an overridden method is the deepest of those it can be. */
+    private static void callsStandNotTooDeep(String code) {
+        Map<String, Set<String>> calls = new TreeMap<>();
+        Matcher method = METHOD.matcher(code);
+        while (method.find()) {
+            Set<String> called = calls.computeIfAbsent(method.group(2), name -> new TreeSet<>());
+            Matcher call = CALL.matcher(method.group(3) == null ? "" : method.group(3));
+            while (call.find()) {
+                called.add(call.group(1));
+            }
+        }
+        for (Method each : GloveSaint.class.getDeclaredMethods()) {
+            Check.due("found: " + each.getName(), calls.containsKey(each.getName()) ? 1 : 0, 1);
+            int depth = depth(calls, each.getName(), new ArrayDeque<>());
+            Check.due(each.getName() + " goes over eight deep, " + depth, depth > 8 ? 1 : 0, 0);
+        }
+    }
+
+    private static int depth(Map<String, Set<String>> calls, String name, Deque<String> open) {
+        int deepest = 0;
+        open.push(name);
+        for (String called : calls.getOrDefault(name, Set.of())) {
+            if (!open.contains(called)) {
+                deepest = Math.max(deepest, depth(calls, called, open));
+            }
+        }
+        open.pop();
+        return deepest + 1;
     }
 }

@@ -24,9 +24,11 @@ public final class SentencesTest {
         "who finds none stays alone", "those that are PAIRED now are left out of it (none)",
         "none ahead of all", "the ROW of most PAIRS", "BEST for so many MILES (0 to 30)",
         "no more MILES are needed", "of these with fewest MILES", "of like ones the lesser number",
-        "each of which would be alone", "no farther than 1 MILE", "of like ones the least; how many",
+        "no two that MAY be PAIRED, and are not", "each of which would be alone", "no farther than 1 MILE",
+        "of like ones the least; how many",
         "where any lies that is not PAIRED", "0 of 1, if there are fewer than two", "SEEN (8 at most)",
-        "of which the SIZE is not known", "SIZES (0 to 9)", "fewest of these are left at worst",
+        "of which the SIZE is not known", "SIZES (0 to 9)", "with which other one to compare it",
+        "fewest of these are left at worst",
         "of like ones the least; none, if there are none", "neither is PAIRED (now, or by what was drawn)",
         "its rest by 2 to the 31", "by 65536 (rounded down), its rest", "An IMAGE keeps",
         "Refusals, of several the first as told by each call", "they change nothing"};
